@@ -376,12 +376,9 @@ public final class DeedBench {
         settled = true;
     }
 
-    /** The PARCELS over which two TRUE deeds clash; 0 if they don't. */
+    /** The PARCELS over which two TRUE deeds clash, or 0; a deed without a CLAIM gives none. */
     private int disputed(int a, int b) {
-        if (!isTrue(a) || !isTrue(b)) {
-            return 0;
-        }
-        if (house[a] == NONE || house[b] == NONE || house[a] == house[b]) {
+        if (!isTrue(a) || !isTrue(b) || house[a] == house[b]) {
             return 0;
         }
         return parcels[a] & parcels[b];

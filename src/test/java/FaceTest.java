@@ -21,7 +21,7 @@ public final class FaceTest {
         "boolean court(int,int)", "int otherwise(int)", "int look(int,int)", "int count(int)");
     private static final List<String> FORBIDDEN = List.of(
         "throw", "try", "catch", "synchronized", "assert", "protected", "package", "import", "native", "volatile",
-        "java", "String", "Object", "Exact", "\\w+Exact", "equals", "hashCode", "toString");
+        "java", "String", "Object", "\\w+Exact", "equals", "hashCode", "toString");
     private static final Check check = new Check("FaceTest");
 
     public static void main(String[] args) throws IOException {

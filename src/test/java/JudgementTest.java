@@ -11,7 +11,9 @@ public final class JudgementTest {
         forgedByNumber();
         forgedByBits();
         years();
+        yearsInChains();
         quarrel();
+        quarrelInLongChains();
         sure();
         check.end();
     }
@@ -145,6 +147,62 @@ public final class JudgementTest {
         check.same("year of a forged one, greatest", x.year(1, 1), DeedBench.NONE);
         check.same("a forged one binds no more", x.year(0, 0), 100);
         check.same("a forged one's hand binds no more", x.year(2, 1), 120);
+    }
+
+    /** Each deed names the one ahead of it in the order, so years go along the whole row. */
+    private static DeedBench chain(int[] order, int from, int to) {
+        DeedBench x = new DeedBench();
+        for (int d = 0; d < order.length; d++) {
+            boolean isFirst = d == order[0];
+            boolean isLast = d == order[order.length - 1];
+            x.deed(isFirst ? from : 0, isLast ? to : 3000, 1);
+        }
+        for (int i = 1; i < order.length; i++) {
+            x.mark(order[i], 4, order[i - 1]);
+        }
+        return x;
+    }
+
+    private static void yearsInChains() {
+        int[] up = {0, 1, 2, 3, 4, 5, 6, 7, 8, 9, 10, 11};
+        int[] down = {11, 10, 9, 8, 7, 6, 5, 4, 3, 2, 1, 0};
+        int[] mixed = {6, 0, 11, 3, 8, 1, 10, 5, 2, 9, 4, 7};
+        for (int[] order : new int[][] {up, down, mixed}) {
+            DeedBench x = chain(order, 700, 900);
+            for (int d = 0; d < 12; d++) {
+                check.same("least of " + d + " in a row", x.year(d, 0), 700);
+                check.same("greatest of " + d + " in a row", x.year(d, 1), 900);
+            }
+        }
+        DeedBench y = new DeedBench();
+        y.span(5);
+        int[] byHands = {6, 0, 4, 3, 8, 1, 7, 5, 2};
+        for (int d = 0; d < 9; d++) {
+            y.deed(d == 6 ? 1000 : 0, d == 6 ? 1000 : 3000, 1);
+        }
+        for (int hand = 0; hand < 8; hand++) {
+            y.mark(byHands[hand], 3, hand);
+            y.mark(byHands[hand + 1], 3, hand);
+        }
+        for (int i = 0; i < 9; i++) {
+            check.same("least by " + i + " hands", y.year(byHands[i], 0), 1000 - 5 * i);
+            check.same("greatest by " + i + " hands", y.year(byHands[i], 1), 1000 + 5 * i);
+        }
+    }
+
+    private static void quarrelInLongChains() {
+        int[] mixed = {6, 0, 11, 3, 8, 1, 10, 5, 2, 9, 4, 7};
+        DeedBench x = chain(mixed, 900, 700);
+        check.same("all twelve", x.quarrel(), 4095);
+        check.same("any one must go", x.forged(), 1);
+        check.same("eleven agree", x.agree(4095 & ~(1 << 9)), 1);
+        x.mark(7, 4, 8);
+        check.same("a shorter way", x.quarrel(), 1 << 6 | 1 | 1 << 11 | 1 << 3 | 1 << 8 | 1 << 7);
+        x.mark(8, 4, 11);
+        check.same("a still shorter way", x.quarrel(), 1 << 6 | 1 | 1 << 11 | 1 << 8 | 1 << 7);
+        x.mark(8, 4, 1);
+        x.mark(1, 4, 0);
+        check.same("one as short, less as bits", x.quarrel(), 1 << 6 | 1 | 1 << 1 | 1 << 8 | 1 << 7);
     }
 
     private static void quarrel() {

@@ -59,11 +59,12 @@ public final class PlainBenchTest {
         return bytes;
     }
 
-    /** Most runs begin with deeds and marks, so that there is something to judge. */
+    /** Most runs begin with deeds, so that there is something to judge; wide ones make long quarrels. */
     private void begin(int run) {
         for (int d = 0; d < run % 13; d++) {
-            int from = draw(years);
-            int to = Math.min(3000, from + draw(years / 2));
+            boolean wide = run % 3 != 0 && draw(3) != 0;
+            int from = wide ? 0 : draw(years);
+            int to = wide ? 3000 : Math.min(3000, from + draw(Math.max(years / 8, 1)));
             int weight = 1 + draw(run % 5 == 0 ? 99 : 3);
             check.same("deed", x.deed(from, to, weight), y.deed(from, to, weight));
         }

@@ -98,6 +98,9 @@ public final class WordsTest {
             check.no("words with byte " + (int) stranger, x.words(0, 6));
             check.same("empty then", x.count(6), 0);
             check.same("WORDS stay", x.look(0, 5), 4);
+            feed(x, stranger + "bcde");
+            check.no("words that begin with byte " + (int) stranger, x.words(0, 5));
+            check.same("WORDS stay", x.look(0, 5), 4);
             feed(x, "abcde" + stranger);
             check.yes("words ahead of byte " + (int) stranger, x.words(0, 5));
             check.same("look(0, 5)", x.look(0, 5), 5);
@@ -168,6 +171,9 @@ public final class WordsTest {
         write(x, 1, "caaaa");
         check.same("to the end of both", x.model(0, 1), 4);
         write(x, 1, "caaa");
-        check.same("old letters are gone", x.model(0, 1), DeedBench.NONE);
+        check.same("the model's old letters are gone", x.model(0, 1), DeedBench.NONE);
+        write(x, 1, "caaaa");
+        write(x, 0, "baaa");
+        check.same("its own old letters are gone", x.model(0, 1), DeedBench.NONE);
     }
 }
