@@ -256,11 +256,11 @@ final class PlainBench {
         return to < from ? NONE : what == 0 ? from : to;
     }
 
-    int feed(int... ints) {
+    int feed(int a, int b, int c, int d, int e) {
         if (tape.length() + 20 > 40) {
             return NONE;
         }
-        for (int x : ints) {
+        for (int x : new int[] {a, b, c, d, e}) {
             for (int i = 3; i >= 0; i--) {
                 tape.append((char) (x >> 8 * i & 255));
             }
