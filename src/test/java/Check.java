@@ -9,8 +9,12 @@ final class Check {
     }
 
     void same(String call, long got, long want) {
+        same(call, String.valueOf(got), String.valueOf(want));
+    }
+
+    void same(String call, String got, String want) {
         asked++;
-        if (got != want) {
+        if (!got.equals(want)) {
             wrong++;
             System.out.println(name + ": " + call + " answered " + got + ", due is " + want);
         }

@@ -233,6 +233,17 @@ public final class DeedsEdgesTest {
             person(0, 9); 3x deed(0, 9, 1); mark(0, 0, 0) = true; mark(1, 0, 0) = true; mark(2, 0, 0) = true
             mark(0, 3, 0) = true; mark(1, 3, 0) = true; mark(0, 4, 2) = true; mark(1, 4, 2) = true
             """);
+        String asked = "person(5, 6); formula(5, 6); seal(5, 6); deed(0, 9, 1); deed(7, 7, 9); forged() = 0; ";
+        runs.run("8: a judgement that was asked before a WITNESS comes anew",
+            asked + "mark(0, 0, 0); year(0, 0) = 5; mark(1, 0, 0); forged() = 2; quarrel() = 2; agree(2) = 0");
+        runs.run("8: a judgement that was asked before a FORMULA comes anew",
+            asked + "mark(0, 1, 0); year(0, 0) = 5; mark(1, 1, 0); forged() = 2; quarrel() = 2; agree(2) = 0");
+        runs.run("8: a judgement that was asked before a SEAL comes anew",
+            asked + "mark(0, 2, 0); year(0, 0) = 5; mark(1, 2, 0); forged() = 2; quarrel() = 2; agree(2) = 0");
+        runs.run("8: a judgement that was asked before a HAND comes anew",
+            asked + "span(1); mark(0, 3, 0); year(0, 0) = 0; mark(1, 3, 0); year(0, 0) = 6; year(0, 1) = 8");
+        runs.run("8: a judgement that was asked before a DEED that it names comes anew",
+            asked + "mark(0, 4, 1); year(0, 0) = 7; mark(1, 4, 0); year(0, 1) = 7; quarrel() = 0");
         runs.run("8: a refused MARK leaves the judgement that was asked", """
             deed(0, 0, 1); deed(9, 9, 2); mark(0, 4, 1); forged() = 1; mark(0, 4, 1) = false; mark(1, 4, 1) = false
             mark(1, 4, 2) = false; forged() = 1; quarrel() = 3; year(1, 0) = 9
@@ -241,8 +252,8 @@ public final class DeedsEdgesTest {
 
     private static void eightMarks() {
         String seven = "9x person(0, 50); formula(3, 40); seal(4, 30); 12x deed(0, 90, 1); "
-            + "mark(0, 0, 0); mark(0, 0, 1); mark(0, 0, 2); mark(0, 0, 3); mark(0, 0, 4); mark(0, 0, 5); mark(0, 0, 6); "
-            + "look(0, 3) = 7; ";
+            + "mark(0, 0, 0); mark(0, 0, 1); mark(0, 0, 2); mark(0, 0, 3); mark(0, 0, 4); mark(0, 0, 5); "
+            + "mark(0, 0, 6); look(0, 3) = 7; ";
         runs.run("8: an eighth MARK, a WITNESS", seven + "mark(0, 0, 7) = true; look(0, 3) = 8");
         runs.run("8: an eighth MARK, a FORMULA", seven + "mark(0, 1, 0) = true; look(0, 3) = 8; look(0, 8) = 3");
         runs.run("8: an eighth MARK, a SEAL", seven + "mark(0, 2, 0) = true; look(0, 3) = 8; look(0, 8) = 4");

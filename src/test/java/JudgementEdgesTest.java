@@ -124,6 +124,18 @@ public final class JudgementEdgesTest {
             span(10); deed(0, 0, 1); deed(10, 20, 1); mark(1, 4, 0); mark(1, 3, 0); mark(0, 3, 0); agree(3) = 1
             year(1, 0) = 10; year(1, 1) = 10; span(9); agree(3) = 0
             """);
+        runs.run("9: one HAND does not let it be ahead of the one that it names", """
+            span(10); deed(0, 4, 1); deed(5, 9, 1); mark(0, 3, 0); mark(1, 3, 0); agree(3) = 1; mark(0, 4, 1)
+            agree(3) = 0
+            """);
+        runs.run("12: one HAND with the one that it names, not ahead of it, W behind it at most", """
+            span(10); deed(0, 50, 1); deed(5, 7, 1); mark(0, 3, 0); mark(1, 3, 0); year(0, 0) = 0; year(0, 1) = 17
+            mark(0, 4, 1); year(0, 0) = 5; year(0, 1) = 17; year(1, 0) = 5; year(1, 1) = 7
+            """);
+        runs.run("12: one HAND with the one that names it, not behind it, W ahead of it at most", """
+            span(10); deed(0, 50, 1); deed(25, 27, 1); mark(0, 3, 0); mark(1, 3, 0); year(0, 0) = 15; year(0, 1) = 37
+            mark(1, 4, 0); year(0, 0) = 15; year(0, 1) = 27; year(1, 0) = 25; year(1, 1) = 27
+            """);
     }
 
     private static void onlyOfTheSet() {
@@ -187,6 +199,14 @@ public final class JudgementEdgesTest {
             """);
         runs.run("10: two pairs, the lower of each", """
             deed(0, 0, 7); deed(1, 1, 7); deed(0, 0, 7); deed(1, 1, 7); mark(0, 4, 1); mark(2, 4, 3); forged() = 5
+            """);
+        runs.run("10: the lightest, though it is far from the one that has no YEAR left", """
+            deed(0, 0, 1); 3x deed(0, 9, 5); deed(5, 9, 5); mark(0, 4, 1); mark(1, 4, 2); mark(2, 4, 1); mark(1, 4, 3)
+            mark(3, 4, 4); forged() = 1; quarrel() = 27
+            """);
+        runs.run("10: the lightest, though it is far, with HANDS in place of names", """
+            span(0); deed(0, 0, 1); 3x deed(0, 9, 5); deed(5, 9, 5); mark(0, 3, 0); mark(1, 3, 0); mark(1, 3, 1)
+            mark(2, 3, 1); mark(1, 3, 2); mark(3, 3, 2); mark(3, 3, 3); mark(4, 3, 3); forged() = 1; quarrel() = 27
             """);
         runs.run("10: the greatest WEIGHTS", """
             deed(0, 0, 99); deed(1, 1, 99); deed(1, 1, 99); mark(0, 4, 1); mark(0, 4, 2); forged() = 1; weight(1) = 99
@@ -277,6 +297,15 @@ public final class JudgementEdgesTest {
             deed(0, 0, 1); deed(9, 9, 1); deed(0, 0, 1); deed(9, 9, 1); mark(2, 4, 3); quarrel() = 12
             mark(0, 4, 3); quarrel() = 9; mark(2, 4, 1); quarrel() = 6; mark(0, 4, 1); quarrel() = 3
             """);
+        runs.run("13: of as many the least, as bits, though a lower DEED is in another", """
+            deed(9, 9, 1); deed(9, 9, 1); deed(0, 0, 1); deed(0, 0, 1); mark(3, 4, 0); quarrel() = 9
+            mark(2, 4, 1); quarrel() = 6
+            """);
+        runs.run("13: of three each the least, as bits", """
+            deed(0, 4, 1); deed(0, 99, 1); deed(0, 99, 1); deed(5, 5, 1); deed(5, 5, 1)
+            mark(0, 4, 2); mark(2, 4, 4); quarrel() = 21; mark(2, 4, 3); quarrel() = 13; mark(0, 4, 1); quarrel() = 13
+            mark(1, 4, 4); quarrel() = 13; mark(1, 4, 3); quarrel() = 11
+            """);
         runs.run("13: all DEEDS are asked, FORGED ones too", """
             person(0, 0); deed(1, 1, 1); deed(0, 9, 1); mark(0, 0, 0); forged() = 1; quarrel() = 1; agree(2) = 1
             """);
@@ -324,6 +353,14 @@ public final class JudgementEdgesTest {
         runs.run("14: the YEARS of TRUE ones, not those in which they are said to be written", """
             person(50, 60); deed(0, 50, 1); deed(60, 90, 1); mark(0, 0, 0); mark(1, 0, 0); sure(0, 0) = 50
             sure(0, 1) = 60; lived(0, 50, 70); sure(0, 1) = 60; deed(65, 65, 9); mark(1, 4, 2); sure(0, 1) = 65
+            """);
+        runs.run("14: it begins by the YEARS that TRUE ones leave one another", """
+            person(50, 90); deed(50, 80, 1); deed(85, 85, 1); mark(0, 0, 0); mark(1, 0, 0); sure(0, 0) = 80
+            deed(70, 70, 9); mark(2, 4, 0); year(0, 1) = 70; sure(0, 0) = 70; sure(0, 1) = 85
+            """);
+        runs.run("14: it begins with the life of a WITNESS of another", """
+            person(0, 3000); person(0, 30); deed(0, 40, 1); deed(35, 35, 1); mark(0, 0, 0); mark(1, 0, 0)
+            sure(0, 0) = 35; mark(0, 0, 1); sure(0, 0) = 30; sure(0, 1) = 35; sure(1, 0) = NONE
             """);
         runs.run("14: DEEDS 0 and 11", """
             person(0, 3000); 11x deed(10, 20, 1); deed(30, 40, 1); mark(0, 0, 0); mark(11, 0, 0); mark(5, 0, 0)

@@ -107,6 +107,13 @@ final class Recipe {
         }
     }
 
+    /** The calls that make it, in their order. */
+    List<Call> steps() {
+        List<Call> steps = new ArrayList<>(told);
+        steps.addAll(fed);
+        return steps;
+    }
+
     int calls() {
         return told.size() + fed.size();
     }

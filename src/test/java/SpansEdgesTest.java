@@ -5,7 +5,6 @@ public final class SpansEdgesTest {
 
     public static void main(String[] args) {
         newObject();
-        ownMemory();
         lastPromisedCall();
         // The number of a kind of mark is also that under which count tells how many there are.
         yearsOf("2: person", "person", 0);
@@ -44,49 +43,6 @@ public final class SpansEdgesTest {
             count(4) = 40; deed(0, 0, 1); deed(40, 40, 1); deed(41, 41, 1)
             mark(0, 3, 0); mark(1, 3, 0); mark(2, 3, 0); agree(3) = 1; agree(5) = 0
             """);
-    }
-
-    private static void ownMemory() {
-        DeedBench[] benches = new DeedBench[5];
-        for (int i = 0; i < benches.length; i++) {
-            benches[i] = new DeedBench();
-        }
-        for (int i = 0; i < benches.length; i++) {
-            fillByNumber(benches[i], i);
-        }
-        for (int i = 0; i < benches.length; i++) {
-            String place = "Terms: all memory is the bench's own: bench " + i + ", ";
-            check.same(place + "count(0)", benches[i].count(0), i);
-            check.same(place + "count(1)", benches[i].count(1), i);
-            check.same(place + "count(2)", benches[i].count(2), i);
-            check.same(place + "count(3)", benches[i].count(3), i);
-            check.same(place + "count(4)", benches[i].count(4), i);
-            check.same(place + "count(6)", benches[i].count(6), i % 2 * 20);
-            for (int d = 0; d < i; d++) {
-                check.same(place + "look 2", benches[i].look(d, 2), i);
-                check.same(place + "look 3", benches[i].look(d, 3), 1);
-                check.same(place + "look 4", benches[i].look(d, 4), i % 3);
-                check.same(place + "look 7", benches[i].look(d, 7), i);
-                check.same(place + "year", benches[i].year(d, 0), i * 10);
-            }
-            check.same(place + "a new one", new DeedBench().count(3), 0);
-        }
-    }
-
-    private static void fillByNumber(DeedBench bench, int i) {
-        bench.span(i);
-        for (int k = 0; k < i; k++) {
-            bench.person(i * 10, 3000);
-            bench.formula(0, i);
-            bench.seal(0, i);
-            bench.deed(i, 3000, i);
-            bench.mark(k, 0, k);
-            bench.claim(k, i % 4, i);
-            bench.court(k, i % 3);
-        }
-        if (i % 2 == 1) {
-            bench.feed(i, i, i, i, i);
-        }
     }
 
     private static void lastPromisedCall() {
