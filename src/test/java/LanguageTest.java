@@ -94,8 +94,9 @@ public final class LanguageTest {
     private static void recursion(Source source) {
         Map<String, Set<String>> callees = source.callees();
         for (Source.Part method : source.methods()) {
-            boolean alone = callees.get(method.name()).remove(method.name());
-            check.yes("8: " + method.name() + " may call itself", !alone || method.words().equals("private static "));
+            boolean callsItself = callees.get(method.name()).remove(method.name());
+            check.yes("8: " + method.name() + " may call itself",
+                !callsItself || method.words().equals("private static "));
         }
         for (String name : callees.keySet()) {
             int deep = depth(callees, name, 0);
